@@ -12,6 +12,7 @@ public final class FindingTest {
         refusals();
         under();
         deepest();
+        widest();
         Due.end();
     }
 
@@ -400,5 +401,29 @@ public final class FindingTest {
         Due.due("29: no more", x.step(0, 79, 0), -102);
         Due.due("30: all STEPS", x.under(0, 79, 1), 9);
         Due.due("32: set", x.set(0, 79), 1);
+    }
+
+    /** As many places as there can be: 6 ARRAYS and 6 LISTS in a LIST, 65 more ARRAYS in these, and a ROW. */
+    private static void widest() {
+        ParameterFind x = new ParameterFind();
+        x.part(1);
+        for (int l = 0; l < 7; l++) {
+            x.list();
+        }
+        for (int a = 0; a < 71; a++) {
+            x.array(a % 8, 12);
+        }
+        x.row(3, 1);
+        x.hold(0, 0, 0, 1);
+        for (int t = 2; t < 14; t++) {
+            x.push(1, t);
+        }
+        for (int t = 14; t < 79; t++) {
+            x.push(2 + (t - 14) / 12, t);
+        }
+        x.hold(0, 1, 0, 79);
+        Due.due("27: find", x.find(0, 0, 0), 1);
+        path(x, 0, 0, 10);
+        meters("widest", x, 1, 71 * 12, 0, 0, 0, 0, 0, -1);
     }
 }

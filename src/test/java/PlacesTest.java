@@ -16,6 +16,7 @@ public final class PlacesTest {
         vaults();
         marks();
         sizes();
+        sizesOfNought();
         nestedSizes();
         titles();
         askRefusals();
@@ -313,6 +314,41 @@ public final class PlacesTest {
         Due.due("37: KIND", x.fails(4), 3);
         Due.due("37: TROUBLE", x.fails(6), 2);
         Due.due("37: all", x.fails(0), 13);
+    }
+
+    /** A SIZE of 0 is no FINDING: what comes behind it is looked at, what came before it stays. */
+    private static void sizesOfNought() {
+        ParameterFind x = new ParameterFind();
+        x.part(1);
+        x.part(7);
+        x.part(3);
+        x.part(4);
+        x.part(6);
+        x.row(4, 0);
+        x.row(4, 3);
+        x.array(5, 0);
+        x.hold(0, 1, 0, 5);
+        Due.due("26: LAYER", x.ask(0, 0), 0);
+        x.hold(3, 4, 0, 5);
+        Due.due("26: NORM", x.ask(3, 0), 0);
+        x.hold(2, 1, 0, 6);
+        x.hold(2, 3, 1, 0);
+        Due.due("26: DEEP, INNER 0", x.ask(2, 0), 3);
+        x.hold(2, 1, 0, 5);
+        x.hold(2, 3, 1, -1);
+        Due.due("26: DEEP, what stands above 0", x.ask(2, 0), -21);
+        x.hold(4, 5, 0, 1);
+        x.hold(4, 5, 1, 0);
+        x.hold(4, 6, 0, 7);
+        Due.due("26: BANK, RIGHT 0, no SPOTS", x.ask(4, 0), 7);
+        x.hold(4, 5, 0, 0);
+        x.hold(4, 5, 1, 1);
+        Due.due("26: BANK, LEFT 0", x.ask(4, 2), 14);
+        x.hold(4, 5, 1, 0);
+        Due.due("26: BANK, 0", x.ask(4, 0), 0);
+        x.hold(4, 6, 0, -1);
+        Due.due("26: BANK, what stands above 0", x.ask(4, 0), -21);
+        Due.due("37: all", x.fails(0), 2);
     }
 
     /** DEEPS 0 .. 10, each INNER of the one before; the last one's WEIGHT alone is bare. */
