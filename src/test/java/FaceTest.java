@@ -6,8 +6,10 @@ import java.lang.reflect.Modifier;
 import java.nio.file.Files;
 import java.nio.file.Path;
 import java.util.Arrays;
+import java.util.HashSet;
 import java.util.List;
-import java.util.TreeMap;
+import java.util.Set;
+import java.util.regex.Pattern;
 
 /** The face is the document's, nothing more, and the source keeps to what ../shared/LANGUAGE.md leaves. */
 public final class FaceTest {
@@ -27,9 +29,11 @@ public final class FaceTest {
     private static final String[] CONSTANTS = {
         "NONE -1", "NOTHING -21", "CAST -22", "OUT -23", "KIND -24", "SIZE -25", "TROUBLE -26", "FAR -27",
         "UNKNOWN -101", "BAD -102", "FULL -103", "STATE -104"};
+    /** What LANGUAGE.md leaves out wherever it stands, as patterns. */
     private static final String[] BARRED = {
-        "import ", "package ", "catch", "finally", "assert ", "synchronized", "->", "::", "Exact", "@", "Object",
-        "float[", "static {", "record ", "hashCode", "toString", "getClass", "try "};
+        "\\bpackage\\b", "\\bfinally\\b", "\\bassert\\b", "\\bsynchronized\\b", "::", "Exact\\(", "static \\{", "\\bhashCode\\b",
+        "\\bgetClass\\b", "\\bThread\\b", "\\bRandom\\b", "\\bSystem\\.(?!arraycopy)", "(?m)^(?!\\s*(case|default)\\b).*->",
+        "import (?!java\\.util\\.)", "catch \\([^)]*(ArrayIndex|NullPointer|ClassCast|NegativeArray|ArrayStore|Throwable|Error)"};
 
     public static void main(String[] args) throws IllegalAccessException, IOException {
         Class<?> face = ParameterFind.class;
@@ -39,10 +43,7 @@ public final class FaceTest {
         methods(face);
         constants(face);
         for (Class<?> inside : face.getDeclaredClasses()) {
-            Due.due(inside + " static", Modifier.isStatic(inside.getModifiers()) ? 1 : 0, 1);
             Due.due(inside + " not public", inside.getModifiers() & (Modifier.PUBLIC | Modifier.PROTECTED), 0);
-            noNameOfTheFace(inside);
-            Due.due(inside + " fields", inside.getDeclaredFields().length <= 20 ? 1 : 0, 1);
         }
         source();
         Due.end();
@@ -52,20 +53,23 @@ public final class FaceTest {
         List<String> due = Arrays.asList(METHODS);
         int seen = 0;
         for (Method method : face.getDeclaredMethods()) {
-            if (Modifier.isPrivate(method.getModifiers())) {
+            if (Modifier.isPrivate(method.getModifiers()) || method.isSynthetic()) {
                 continue;
             }
             seen++;
             Due.due(told(method), due.contains(told(method)) ? 1 : 0, 1);
-            Due.due(told(method) + " is public alone", method.getModifiers(), Modifier.PUBLIC);
+            Due.due(told(method) + " is public", Modifier.isPublic(method.getModifiers()) ? 1 : 0, 1);
+            Due.due(told(method) + " is static", Modifier.isStatic(method.getModifiers()) ? 1 : 0, 0);
         }
         Due.due("methods", seen, METHODS.length);
-        TreeMap<String, Integer> names = new TreeMap<>();
-        for (Method method : face.getDeclaredMethods()) {
-            names.merge(method.getName(), 1, Integer::sum);
+        // no private method bears the name of a public one
+        Set<String> open = new HashSet<>();
+        for (Method method : face.getMethods()) {
+            open.add(method.getName());
         }
-        for (String name : names.keySet()) {
-            Due.due("methods named " + name, names.get(name), 1);
+        for (Method method : face.getDeclaredMethods()) {
+            boolean hidden = Modifier.isPrivate(method.getModifiers());
+            Due.due("a private " + method.getName(), hidden && open.contains(method.getName()) ? 1 : 0, 0);
         }
     }
 
@@ -87,7 +91,7 @@ public final class FaceTest {
         List<String> due = Arrays.asList(CONSTANTS);
         int seen = 0;
         for (Field field : face.getDeclaredFields()) {
-            if (Modifier.isPrivate(field.getModifiers())) {
+            if (Modifier.isPrivate(field.getModifiers()) || field.isSynthetic()) {
                 continue;
             }
             seen++;
@@ -97,20 +101,11 @@ public final class FaceTest {
         Due.due("constants", seen, CONSTANTS.length);
     }
 
-    private static void noNameOfTheFace(Class<?> inside) {
-        for (Method method : inside.getDeclaredMethods()) {
-            for (String known : METHODS) {
-                boolean same = known.contains(" " + method.getName() + "(");
-                Due.due(inside + " has a " + method.getName(), same ? 1 : 0, 0);
-            }
-        }
-    }
-
     private static void source() throws IOException {
         String text = Files.readString(Path.of("src/main/java/ParameterFind.java"));
-        String code = text.replaceAll("(?s)/\\*.*?\\*/", "").replaceAll("//.*", "");
+        String code = text.replaceAll("(?s)/\\*.*?\\*/", "").replaceAll("//.*", "").replaceAll("\"[^\"\\n]*\"", "");
         for (String barred : BARRED) {
-            Due.due("the source has '" + barred + "'", code.contains(barred) ? 1 : 0, 0);
+            Due.due("the source has '" + barred + "'", Pattern.compile(barred).matcher(code).find() ? 1 : 0, 0);
         }
     }
 }

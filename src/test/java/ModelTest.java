@@ -4,7 +4,10 @@ import java.util.List;
 /** Runs of drawn calls (the same ones each time), each answer against that of JavaModel. */
 public final class ModelTest {
     private static final int RUNS = 3000;
-    private static final int CALLS = 512;
+    /** What later calls on the same object answer is free. */
+    private static final int MOST_CALLS = 512;
+    /** A finding, and its METER. */
+    private static final int MOST_AT_ONCE = 9;
     /** How many calls make the THINGS of a crowded run, and their places. */
     private static final int CROWD = 99;
     private static final long[] EDGES = {
@@ -60,7 +63,7 @@ public final class ModelTest {
         quiet = 0;
         run.clear();
         int mode = n % 4;
-        for (int k = 0; k < CALLS; k++) {
+        for (int k = 0; run.size() + MOST_AT_ONCE <= MOST_CALLS; k++) {
             if (!one(k, mode)) {
                 System.out.println("run " + n + " differs at its last call:");
                 run.forEach(System.out::println);

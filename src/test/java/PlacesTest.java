@@ -42,11 +42,11 @@ public final class PlacesTest {
     }
 
     private static void fieldsTake() {
-        ParameterFind x = things();
         for (int own = 1; own < 8; own++) {
             for (int cls = 0; cls < 8; cls++) {
                 for (int f = 0; f < FIELDS[cls]; f++) {
-                    oneField(x, 16 + own, cls, f);
+                    // an object for each FIELD: none is promised to answer more than 512 calls
+                    oneField(things(), 16 + own, cls, f);
                 }
             }
         }
@@ -110,14 +110,13 @@ public final class PlacesTest {
     }
 
     private static void spotsTake() {
-        ParameterFind x = things();
         for (int sort = 0; sort < 8; sort++) {
-            int a = 8 + sort;
+            ParameterFind x = things();
             for (int t = 0; t < 26; t++) {
-                oneSpot(x, a, sort, t);
+                oneSpot(x, 8 + sort, sort, t);
             }
+            Due.due("37: what is thrown is no FINDING", x.fails(0), 0);
         }
-        Due.due("37: what is thrown is no FINDING", x.fails(0), 0);
     }
 
     private static void oneSpot(ParameterFind x, int a, int sort, int t) {

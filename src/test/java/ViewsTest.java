@@ -8,12 +8,19 @@ public final class ViewsTest {
         {17, 18, 19, 20, 21, 22}, {9, 10, 11, 12}, {16}, {24}, {25}};
 
     public static void main(String[] args) {
-        ParameterFind x = things();
         for (int view = 0; view < GOES.length; view++) {
+            // an object for each VIEW: none is promised to answer more than 512 calls
+            ParameterFind x = things();
             for (int t = 0; t < 26; t++) {
                 oneView(x, t, view, contains(GOES[view], t));
             }
+            Due.due("37: what is thrown is no FINDING", x.fails(0), 0);
         }
+        refusals(things());
+        Due.end();
+    }
+
+    private static void refusals(ParameterFind x) {
         Due.due("14: UNKNOWN before BAD", x.is(26, 29), -101);
         Due.due("14: UNKNOWN", x.is(-1, 0), -101);
         Due.due("14: BAD", x.is(0, 29), -102);
@@ -22,8 +29,6 @@ public final class ViewsTest {
         Due.due("15: UNKNOWN", x.take(-1, 0), -101);
         Due.due("15: BAD", x.take(0, 29), -102);
         Due.due("15: BAD", x.take(0, Integer.MIN_VALUE), -102);
-        Due.due("37: what is thrown is no FINDING", x.fails(0), 0);
-        Due.end();
     }
 
     private static void oneView(ParameterFind x, int t, int view, boolean goes) {
