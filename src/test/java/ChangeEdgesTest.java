@@ -281,8 +281,8 @@ public final class ChangeEdgesTest extends Due {
     }
 
     private static void eachWraps() {
-        says("0 its own and v, 1 its own times v, 2 v less its own");
-        says("(as longs, wrapping;");
+        says("0 its own and v, 1 its own times v, 2 v less its own",
+            "(as longs, wrapping;");
         becomes(BYTES, 127, AND, 1, -128);
         becomes(BYTES, -128, AND, -1, 127);
         becomes(BYTES, 127, AND, 256, 127);
@@ -616,10 +616,13 @@ public final class ChangeEdgesTest extends Due {
                 x.due(1, "back").due(1, "count", 3).due(1, "count", 1);
             }
         }
-        // what a WORD of doubles could not tell comes back, too
-        Run y = oneRow(DOUBLES, 1);
-        y.done("put", 1, 0, LONGS, 1L << 40);
-        y.due(1, "keep").due(1, "put", 1, 0, DOUBLES, 1).due(1, "back").due(1L << 42, "get", 1, 0, DOUBLES);
+        // ITEMS that no WORD of their LANE tells come back, too, and are copied
+        int[] reals = {FLOATS, DOUBLES};
+        for (int lane : reals) {
+            Run y = items(lane, LONGS, 1L << 62, -(1L << 61) - (1L << 60));
+            y.due(1L << 62, "sum", 0, 5).due(1, "keep").due(2, "each", 0, TIMES, 0).due(0, "sum", 0, 5);
+            y.due(1, "back").due(1L << 62, "sum", 0, 5).due(2, "copy", 1).due(1, "set", 0, 2).due(1L << 62, "sum", 0, 5);
+        }
     }
 
     /** What is KEPT stays so, whatever becomes of PARAMETERS, FIELDS and MARKS. */

@@ -9,6 +9,7 @@ public final class CountEdgesTest extends Due {
         countRefusals();
         countsOfFindings();
         countsOfKept();
+        fiveHundredAndTwelveCalls();
         end();
     }
 
@@ -21,8 +22,8 @@ public final class CountEdgesTest extends Due {
     }
 
     private static void findingsByThemselves() {
-        says("FINDINGS (answers below 0 of what is met): NOTHING -21, CAST -22, OUT -23, KIND -24, SIZE -25, TROUBLE -26, FAR -27.");
-        says("Each that a call answers is counted.");
+        says("FINDINGS (answers below 0 of what is met): NOTHING -21, CAST -22, OUT -23, KIND -24, SIZE -25, TROUBLE -26, FAR -27.",
+            "Each that a call answers is counted.");
         Run x = new Run();
         x.done("part", 1);
         x.done("part", 7);
@@ -171,5 +172,29 @@ public final class CountEdgesTest extends Due {
         x.done("mark", 0, 0, 0);
         x.due(0, "count", 1).due(1, "count", 3).due(1, "back").due(1, "count", 3).due(0, "keep").due(0, "count", 3);
         x.due(2, "count", 0).due(1, "count", 2);
+    }
+
+    /** Up to its last call an object counts on, and answers as ever. */
+    private static void fiveHundredAndTwelveCalls() {
+        says("An object is used for at most 512 calls after it has been made");
+        Run finds = new Run();
+        finds.done("part", 7);
+        Run fails = new Run();
+        fails.done("part", 7);
+        for (int n = 0; n < 510; n++) {
+            finds.due(0, "find", 0, 0, 0);
+            fails.due(KIND, "length", 0);
+        }
+        finds.due(510, "count", 2);
+        fails.due(510, "fails", 4);
+        Run last = new Run();
+        last.done("part", 1);
+        last.done("row", 3, 1);
+        last.done("hold", 0, 1, 0, 1);
+        last.done("find", 0, 0, 0);
+        for (int n = 0; n < 507; n++) {
+            last.due(1, "each", 0, 0, 1);
+        }
+        last.due(507, "sum", 0, 3);
     }
 }

@@ -20,10 +20,10 @@ abstract class Due {
     private static String sentence = "";
     private static boolean sentenceIsPrinted = true;
 
-    /** The sentence of ../shared/DOC.md that the answers from here on would break, if it did not hold. */
-    static void says(String words) {
-        said++;
-        sentence = words;
+    /** The sentences of ../shared/DOC.md, word for word, that do not hold if an answer from here on is not as due. */
+    static void says(String... sentences) {
+        said += sentences.length;
+        sentence = String.join("', '", sentences);
         sentenceIsPrinted = false;
     }
 

@@ -24,6 +24,7 @@ public final class FindEdgesTest extends Due {
         leastKeyFirst();
         longestPath();
         frozen();
+        parametersOfTheLatest();
         meterOfTheLatest();
         shutLast();
         ruleOfReals();
@@ -319,7 +320,7 @@ public final class FindEdgesTest extends Due {
     }
 
     private static void rowsAgain() {
-        says("5 how often it was AGAIN");
+        says("FIELDS, SPOTS, ENTRIES, KEYS, by which it was met first", "5 how often it was AGAIN");
         Run x = new Run();
         x.done("part", LAYER);
         x.done("row", 0, 0);
@@ -433,7 +434,8 @@ public final class FindEdgesTest extends Due {
 
     /** 79 THINGS within one another, then a ROW; the first FIELD is FROZEN. */
     private static void longestPath() {
-        says("THE PATH of a PARAMETER: its STEPS from the PART that was begun with");
+        says("THE PATH of a PARAMETER: its STEPS from the PART that was begun with",
+            "STEP k of the PATH of PARAMETER i: what it is (what = 0: 0 FIELD, 1 SPOT, 2 ENTRY, 3 KEY)");
         Run x = new Run();
         x.done("part", VAULT);
         for (int t = 1; t < 79; t++) {
@@ -493,6 +495,36 @@ public final class FindEdgesTest extends Due {
                 x.due(3, "find", 0, 0, 0).due(cold, "at", 0, 3).due(cold * 3, "under", 0, 0, 2);
             }
         }
+    }
+
+    /** Nothing of an earlier finding is left: neither where a ROW was met, nor whether it was FROZEN, nor how often AGAIN. */
+    private static void parametersOfTheLatest() {
+        says("by which it was met first", "FINDS from a PART by a RULE: how many PARAMETERS.");
+        Run x = new Run();
+        x.done("part", DEEP);
+        x.done("part", NORM);
+        x.done("list");
+        x.done("row", 5, 1);
+        x.done("row", 4, 2);
+        x.done("hold", 0, 1, 0, 3);
+        x.done("hold", 0, 2, 0, 3);
+        x.done("hold", 0, 3, 0, 4);
+        x.done("hold", 1, 0, 0, 2);
+        x.done("push", 2, -1);
+        x.done("push", 2, 4);
+        x.done("mark", 1, 0, 1);
+        x.due(2, "find", 0, 0, 0).due(1, "at", 0, 3).due(1, "at", 0, 5);
+        path(x, 0, FIELD, 10);
+        path(x, 1, FIELD, 30);
+        x.due(1, "find", 1, 0, 0).due(0, "at", 0, 3).due(0, "at", 0, 5);
+        found(x, 4);
+        path(x, 0, FIELD, 0, ENTRY, 1);
+        x.due(1, "under", 0, 0, 0).due(2, "under", 0, 2, 1).due(1, "set", 0, 3).due(3, "entry", 2, 1).due(3, "held", 0, 1, 0);
+        x.due(2, "find", 0, 0, 0).due(1, "at", 0, 5).due(0, "at", 1, 5);
+        path(x, 0, FIELD, 10);
+        path(x, 1, FIELD, 30);
+        x.due(0, "find", 1, 3, 4);
+        found(x);
     }
 
     private static void meterOfTheLatest() {
@@ -624,7 +656,6 @@ public final class FindEdgesTest extends Due {
         x.due(1, "count", 1).due(want, name, args).due(0, "count", 1);
         x.due(BAD, "at", 0, 0).due(BAD, "step", 0, 0, 0).due(BAD, "under", 0, 0, 0).due(BAD, "set", 0, 5);
         x.due(BAD, "each", 0, 0, 0).due(BAD, "sum", 0, 3).due(0, "keep").due(1, "count", 2);
-        says("PARAMETERS are gone (the METER stays)");
         meters(x, 2, 4, 0, 0, 0, 0, 0, NONE);
     }
 
@@ -726,7 +757,8 @@ public final class FindEdgesTest extends Due {
     }
 
     private static void atRefusals() {
-        says("4 how many STEPS, 5 how often it was AGAIN. BAD: no such.");
+        says("Of PARAMETER i: 0 the THING, 1 its LANE, 2 its ITEMS, 3 FROZEN (1, 0), 4 how many STEPS, 5 how often it was AGAIN.",
+            "BAD: no such.");
         Run x = lanes();
         x.due(8, "find", 0, 0, 0);
         for (int i : outside(0, 7)) {
@@ -781,7 +813,7 @@ public final class FindEdgesTest extends Due {
 
     /** A BLOCK with the same FIELDS and ENTRIES in LEFT and in RIGHT: only the first STEP tells them apart. */
     private static void under() {
-        says("Of the PARAMETERS with the same first n STEPS as i: how many (what = 0), their ITEMS together (1)");
+        says("Of the PARAMETERS with the same first n STEPS as i: how many (what = 0), their ITEMS together (1), how many are FROZEN (2)");
         Run x = new Run();
         x.done("part", BLOCK);
         for (int side = 0; side < 2; side++) {

@@ -29,7 +29,8 @@ public final class ItemEdgesTest extends Due {
     }
 
     private static void lowestBits() {
-        says("What a WORD v makes: of whole ones and stamps the lowest bits, as many as they have");
+        says("A WORD tells an ITEM: a whole number itself, a tick 1 or 0, a stamp 0 .. 65535",
+            "What a WORD v makes: of whole ones and stamps the lowest bits, as many as they have");
         int[] lanes = {BYTES, SHORTS, INTS, LONGS, STAMPS};
         for (int lane : lanes) {
             makes(lane, LEAST[lane], LEAST[lane]);
@@ -171,7 +172,8 @@ public final class ItemEdgesTest extends Due {
     }
 
     private static void wideningByGet() {
-        says("A LANE WIDENS to itself; bytes to shorts, ints, longs, floats, doubles; shorts and stamps to ints");
+        says("A LANE WIDENS to itself; bytes to shorts, ints, longs, floats, doubles",
+            "shorts and stamps to ints, longs, floats, doubles; ints to longs, floats, doubles; longs to floats, doubles");
         for (int from = 0; from < 8; from++) {
             for (int to = 0; to < 8; to++) {
                 Run x = new Run();

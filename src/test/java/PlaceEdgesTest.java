@@ -83,8 +83,10 @@ public final class PlaceEdgesTest extends Due {
     }
 
     private static void fieldsTake() {
-        says("PART: 0 NOTE (any THING). LAYER: 0 WEIGHT (any). DENSE: 0 WEIGHT (ROWS of doubles), 1 BIAS (any).");
-        says("CAST: the FIELD does not take t.");
+        says("PART: 0 NOTE (any THING). LAYER: 0 WEIGHT (any). DENSE: 0 WEIGHT (ROWS of doubles), 1 BIAS (any).",
+            "DEEP: 0 WEIGHT (any), 1 INNER (LAYERS). NORM: 0 SCALE (ROWS of floats), 1 NOTE (any). BLOCK: 0 LEFT, 1 RIGHT (PARTS).",
+            "BANK: 0 TABLE (ARRAYS of ROWS of doubles), 1 STACK (ARRAYS of LAYERS, DENSES or NORMS). VAULT: 0 SECRET (any).",
+            "CAST: the FIELD does not take t.");
         for (int own = 1; own < 8; own++) {
             for (int cls : TELLERS[own]) {
                 for (int f = 0; f < FIELDS[cls]; f++) {
@@ -109,7 +111,7 @@ public final class PlaceEdgesTest extends Due {
     }
 
     private static void fieldsOfOthers() {
-        says("CAST: p is no PART of that class");
+        says("A PART has all FIELDS that its class and those above it tell", "CAST: p is no PART of that class");
         for (int p = 0; p < MADE; p++) {
             Run x = things();
             boolean isPart = p >= 16 && p <= 22;
@@ -196,8 +198,8 @@ public final class PlaceEdgesTest extends Due {
     }
 
     private static void spotsTake() {
-        says("t is no PART (of SORTS 0 .. 4), no ROW of the LANE (5, 6, 7)");
-        says("Store: a PART, but none that the SORT names.");
+        says("t is no PART (of SORTS 0 .. 4), no ROW of the LANE (5, 6, 7)",
+            "Store: a PART, but none that the SORT names.");
         int[][] takes = {PARTS, LAYERS, {17, 18}, {19}, {20, 21}, DOUBLES, FLOATS, {2}};
         for (int sort = 0; sort < 8; sort++) {
             Run x = things();
@@ -280,8 +282,8 @@ public final class PlaceEdgesTest extends Due {
     }
 
     private static void twelveEntries() {
-        says("A LIST has 0 .. 12 ENTRIES, bare ones, too.");
-        says("A LIST has a THING (-1: a bare ENTRY) more at its end: how many. UNKNOWN (l, t); CAST: no LIST; FULL.");
+        says("A LIST has 0 .. 12 ENTRIES, bare ones, too.",
+            "A LIST has a THING (-1: a bare ENTRY) more at its end: how many. UNKNOWN (l, t); CAST: no LIST; FULL.");
         Run x = things();
         for (int n = 1; n <= 12; n++) {
             x.due(n, "push", 23, n % 3 == 0 ? -1 : n + 10);
@@ -340,8 +342,8 @@ public final class PlaceEdgesTest extends Due {
     }
 
     private static void eightKeys() {
-        says("A MAP has up to 8 KEYS (0 .. 999), each with a THING.");
-        says("FULL: a ninth KEY");
+        says("A MAP has up to 8 KEYS (0 .. 999), each with a THING.",
+            "FULL: a ninth KEY");
         Run x = things();
         int[] keys = {500, 999, 0, 998, 1, 250, 750, 499};
         for (int n = 0; n < 8; n++) {
@@ -432,8 +434,8 @@ public final class PlaceEdgesTest extends Due {
     }
 
     private static void marksFromTo() {
-        says("1 FROZEN, 2 BUFFER, 4 FINAL, together; none at first");
-        says("MARKS of a FIELD that a class tells (0 .. 7): what they were. BAD.");
+        says("1 FROZEN, 2 BUFFER, 4 FINAL, together; none at first",
+            "MARKS of a FIELD that a class tells (0 .. 7): what they were. BAD.");
         for (int cls = 0; cls < 8; cls++) {
             for (int f = 0; f < FIELDS[cls]; f++) {
                 Run x = new Run();

@@ -215,6 +215,16 @@ public final class SizeEdgesTest extends Due {
         x.due(17, "ask", 0, 0);
         x.done("hold", 0, 6, 0, -1);
         x.due(NOTHING, "ask", 0, 0).due(1, "fails", 0);
+        // a SIZE of 0 above is no FINDING: TABLE is still looked at
+        Run y = bank(12);
+        y.done("part", LAYER);
+        y.done("row", 0, 0);
+        y.done("hold", 3, 1, 0, 4);
+        y.done("hold", 0, 5, 0, 3);
+        y.done("hold", 0, 5, 1, 3);
+        y.due(12, "ask", 0, 0).due(24, "ask", 0, 2);
+        y.done("hold", 0, 6, 0, -1);
+        y.due(NOTHING, "ask", 0, 0).due(1, "fails", 0);
     }
 
     private static void bankOrder() {
@@ -272,8 +282,8 @@ public final class SizeEdgesTest extends Due {
     }
 
     private static void tenWithinOneAnother() {
-        says("a SIZE of another PART that would be the 11th within one another is FAR");
-        says("the outermost is the first");
+        says("a SIZE of another PART that would be the 11th within one another is FAR",
+            "the outermost is the first");
         chain(DEEP, 0, 9, NORM).due(1, "hold", 12, 4, 0, 10).due(9 + 2, "ask", 0, 0).due(22, "ask", 0, 2);
         chain(DEEP, 0, 10, NORM).due(1, "hold", 13, 4, 0, 11).due(FAR, "ask", 0, 0).due(FAR, "ask", 0, 2)
             .due(9 + 2, "ask", 1, 0).due(2, "fails", 7).due(2, "fails", 0);
@@ -375,8 +385,8 @@ public final class SizeEdgesTest extends Due {
     }
 
     private static void titles() {
-        says("TITLE, likewise: PART 100 times the class that it is made of; DENSE 1 more than TITLE as of what stands above it");
-        says("BLOCK 2 more, likewise; BANK three times that, likewise; others tell none.");
+        says("TITLE, likewise: PART 100 times the class that it is made of; DENSE 1 more than TITLE as of what stands above it",
+            "BLOCK 2 more, likewise; BANK three times that, likewise; others tell none.");
         int[] titles = {100, 201, 301, 400, 502, 1806, 700};
         Run x = new Run();
         for (int cls = 1; cls < 8; cls++) {
@@ -390,8 +400,8 @@ public final class SizeEdgesTest extends Due {
     }
 
     private static void twice() {
-        says("twice its SIZE, if it is a LAYER or BLOCK (2)");
-        says("of 2: neither LAYER nor BLOCK; then what SIZE finds");
+        says("twice its SIZE, if it is a LAYER or BLOCK (2)",
+            "of 2: neither LAYER nor BLOCK; then what SIZE finds");
         Run x = new Run();
         for (int cls = 1; cls < 8; cls++) {
             x.done("part", cls);

@@ -366,7 +366,7 @@ public final class ThingEdgesTest extends Due {
     }
 
     private static void abouts() {
-        says("of a LIST how many ENTRIES, of a MAP how many KEYS, of a PLAIN its number.");
+        says("Of a ROW its LANE, of an ARRAY its SORT, of a PART its CLASS, of a LIST how many ENTRIES, of a MAP how many KEYS");
         Run x = new Run();
         x.done("list");
         x.done("map");

@@ -47,8 +47,12 @@ public final class ToldFirstTest extends Due {
         return x;
     }
 
+    private static void order(String sentence) {
+        says("Of several what is told first at the call.", sentence);
+    }
+
     private static void making() {
-        says("BAD (lane, n above 24), FULL; SIZE: n below 0.");
+        order("BAD (lane, n above 24), FULL; SIZE: n below 0.");
         Run x = new Run();
         x.due(BAD, "row", 8, -1).due(BAD, "row", -1, MIN).due(BAD, "row", 8, 25).due(BAD, "array", 8, -1).due(BAD, "array", -1, 13);
         for (int t = 0; t < 80; t++) {
@@ -60,7 +64,7 @@ public final class ToldFirstTest extends Due {
     }
 
     private static void copying() {
-        says("UNKNOWN, FULL; KIND: it is no ROW.");
+        order("UNKNOWN, FULL; KIND: it is no ROW.");
         Run x = new Run();
         for (int t = 0; t < 80; t++) {
             x.done("plain", t);
@@ -69,7 +73,7 @@ public final class ToldFirstTest extends Due {
     }
 
     private static void getting() {
-        says("UNKNOWN, BAD (as), as longs; KIND: no ROW; OUT; KIND: its LANE does not WIDEN to that.");
+        order("UNKNOWN, BAD (as), as longs; KIND: no ROW; OUT; KIND: its LANE does not WIDEN to that.");
         Run x = things();
         x.due(UNKNOWN, "get", 16, 0, 8).due(UNKNOWN, "get", -1, -1, -1).due(UNKNOWN, "get", 16, 99, 0);
         x.due(BAD, "get", 0, 0, 8).due(BAD, "get", 0, -1, -1).due(BAD, "get", 7, 2, 8).due(BAD, "get", 7, -1, 8);
@@ -80,7 +84,7 @@ public final class ToldFirstTest extends Due {
     }
 
     private static void putting() {
-        says("UNKNOWN, BAD (as, v); KIND: no ROW; OUT; KIND: that LANE does not WIDEN to the ROW's.");
+        order("UNKNOWN, BAD (as, v); KIND: no ROW; OUT; KIND: that LANE does not WIDEN to the ROW's.");
         Run x = things();
         x.due(UNKNOWN, "put", 16, 0, 8, 0).due(UNKNOWN, "put", -1, 0, 5, TOO_MUCH).due(UNKNOWN, "put", 16, 99, 0, 0);
         x.due(BAD, "put", 0, 0, 8, 0).due(BAD, "put", 0, 0, 5, TOO_MUCH).due(BAD, "put", 7, 2, 8, 0);
@@ -92,26 +96,26 @@ public final class ToldFirstTest extends Due {
     }
 
     private static void viewing() {
-        says("A THING taken as a VIEW: its KIND. UNKNOWN, BAD.");
+        order("A THING taken as a VIEW: its KIND. UNKNOWN, BAD.");
         Run x = things();
         x.due(UNKNOWN, "is", 16, 29).due(UNKNOWN, "is", -1, -1).due(UNKNOWN, "take", 16, 29).due(UNKNOWN, "take", -1, -1);
         x.due(UNKNOWN, "take", 16, 0).due(BAD, "take", 0, 29).due(BAD, "take", 0, -1);
     }
 
     private static void holding() {
-        says("UNKNOWN (p, t), BAD (cls, f: no such FIELD). CAST: p is no PART of that class; CAST: the FIELD does not take t.");
+        order("UNKNOWN (p, t), BAD (cls, f: no such FIELD). CAST: p is no PART of that class; CAST: the FIELD does not take t.");
         Run x = things();
         x.due(UNKNOWN, "hold", 16, 8, 0, 0).due(UNKNOWN, "hold", -1, 0, 1, -1).due(UNKNOWN, "hold", 0, 8, 0, 16);
         x.due(UNKNOWN, "hold", 0, 0, 1, -2).due(UNKNOWN, "hold", 7, 0, 0, 16).due(UNKNOWN, "hold", 0, 2, 0, -2);
         x.due(UNKNOWN, "hold", 4, 5, 0, 16).due(BAD, "hold", 7, 8, 0, 0).due(BAD, "hold", 7, 0, 1, 0).due(BAD, "hold", 0, 2, 2, 0);
         x.due(BAD, "hold", 0, 7, 1, 0).due(0, "fails", 0).due(CAST, "hold", 0, 2, 0, 7).due(1, "fails", 2).due(1, "fails", 0);
-        says("The THING that a FIELD holds; NONE. UNKNOWN, BAD; CAST: p is no PART of that class.");
+        order("The THING that a FIELD holds; NONE. UNKNOWN, BAD; CAST: p is no PART of that class.");
         x.due(UNKNOWN, "held", 16, 8, 0).due(UNKNOWN, "held", -1, 0, 1).due(BAD, "held", 7, 8, 0).due(BAD, "held", 7, 0, 1);
         x.due(BAD, "held", 0, 2, 2).due(1, "fails", 0);
     }
 
     private static void laying() {
-        says("UNKNOWN (a, t). Cast: a is no ARRAY; t is no PART (of SORTS 0 .. 4), no ROW of the LANE (5, 6, 7). Index: no such SPOT.");
+        order("UNKNOWN (a, t). Cast: a is no ARRAY; t is no PART (of SORTS 0 .. 4), no ROW of the LANE (5, 6, 7). Index: no such SPOT.");
         Run x = things();
         x.due(UNKNOWN, "lay", 16, 2, 0).due(UNKNOWN, "lay", -1, 0, -2).due(UNKNOWN, "lay", 0, 0, 16).due(UNKNOWN, "lay", 0, 0, -2);
         x.due(UNKNOWN, "lay", PARTS, 2, 16).due(UNKNOWN, "lay", PARTS, -1, -2).due(UNKNOWN, "lay", DOUBLES, 2, -2);
@@ -119,41 +123,41 @@ public final class ToldFirstTest extends Due {
         x.thrown(CAST_THROWN, "lay", PARTS, 2, 7).thrown(CAST_THROWN, "lay", PARTS, -1, 10).thrown(CAST_THROWN, "lay", DOUBLES, 2, 7);
         x.thrown(CAST_THROWN, "lay", DOUBLES, -1, 0);
         x.thrown(INDEX_THROWN, "lay", PARTS, 2, 6).thrown(INDEX_THROWN, "lay", PARTS, -1, 4).thrown(STORE_THROWN, "lay", PARTS, 1, 4);
-        says("UNKNOWN. Cast: a is no ARRAY. Index.");
+        order("UNKNOWN. Cast: a is no ARRAY. Index.");
         x.due(UNKNOWN, "spot", 16, 2).due(UNKNOWN, "spot", -1, -1).thrown(CAST_THROWN, "spot", 0, -1);
         x.thrown(CAST_THROWN, "spot", FULL_LIST, 12).due(0, "fails", 0);
     }
 
     private static void pushing() {
-        says("UNKNOWN (l, t); CAST: no LIST; FULL.");
+        order("UNKNOWN (l, t); CAST: no LIST; FULL.");
         Run x = things();
         x.due(UNKNOWN, "push", 16, 0).due(UNKNOWN, "push", -1, -2).due(UNKNOWN, "push", 0, 16).due(UNKNOWN, "push", 0, -2);
         x.due(UNKNOWN, "push", FULL_LIST, 16).due(UNKNOWN, "push", FULL_LIST, -2).due(FULL, "push", FULL_LIST, -1);
         x.due(0, "fails", 0).due(CAST, "push", FULL_MAP, 0).due(1, "fails", 2);
-        says("UNKNOWN; CAST: no LIST; OUT.");
+        order("UNKNOWN; CAST: no LIST; OUT.");
         x.due(UNKNOWN, "entry", 16, -1).due(CAST, "entry", 0, -1).due(CAST, "entry", FULL_MAP, 12).due(3, "fails", 2).due(0, "fails", 3);
     }
 
     private static void keying() {
-        says("UNKNOWN (m, t), BAD (k); CAST: no MAP; FULL: a ninth KEY.");
+        order("UNKNOWN (m, t), BAD (k); CAST: no MAP; FULL: a ninth KEY.");
         Run x = things();
         x.due(UNKNOWN, "key", 16, -1, 0).due(UNKNOWN, "key", -1, 1000, -2).due(UNKNOWN, "key", MAP, 1000, 16);
         x.due(UNKNOWN, "key", 0, 0, 16).due(UNKNOWN, "key", 0, -1, -2).due(UNKNOWN, "key", FULL_MAP, 8, 16);
         x.due(BAD, "key", 0, -1, 0).due(BAD, "key", 0, 1000, -1).due(BAD, "key", FULL_MAP, 1000, 0).due(BAD, "key", FULL_MAP, -1, 0);
         x.due(FULL, "key", FULL_MAP, 999, 0).due(0, "fails", 0).due(CAST, "key", FULL_LIST, 8, 0).due(1, "fails", 2);
-        says("UNKNOWN; CAST: no MAP.");
+        order("UNKNOWN; CAST: no MAP.");
         x.due(UNKNOWN, "keyed", 16, -1).due(CAST, "keyed", 0, 1000).due(2, "fails", 2);
     }
 
     private static void asking() {
-        says("UNKNOWN, BAD; CAST: no PART; of 2: neither LAYER nor BLOCK; then what SIZE finds.");
+        order("UNKNOWN, BAD; CAST: no PART; of 2: neither LAYER nor BLOCK; then what SIZE finds.");
         Run x = things();
         x.due(UNKNOWN, "ask", 16, 3).due(UNKNOWN, "ask", -1, -1).due(BAD, "ask", 7, 3).due(BAD, "ask", 7, -1).due(BAD, "ask", 6, 3);
         x.due(0, "fails", 0).due(CAST, "ask", 7, 2).due(CAST, "ask", 6, 2).due(2, "fails", 2).due(0, "fails", 6).due(2, "fails", 0);
     }
 
     private static void finding() {
-        says("UNKNOWN, BAD (rule); CAST: no PART; FULL.");
+        order("UNKNOWN, BAD (rule); CAST: no PART; FULL.");
         Run x = new Run();
         x.done("part", 1);
         x.done("list");
@@ -170,14 +174,14 @@ public final class ToldFirstTest extends Due {
     }
 
     private static void parameters() {
-        says("BAD: no PARAMETER i, n is not 0 .. its STEPS, another what.");
+        order("BAD: no PARAMETER i, n is not 0 .. its STEPS, another what.");
         Run x = things();
         x.due(BAD, "at", 0, 6).due(BAD, "step", 0, 1, 2).due(BAD, "under", 0, 1, 3).due(BAD, "set", 0, 16).due(BAD, "set", 0, 0);
         x.due(BAD, "each", 0, 4, 0).due(BAD, "sum", 0, 4).due(0, "fails", 0);
     }
 
     private static void setting() {
-        says("BAD: no such; UNKNOWN (t); KIND: t is no ROW; STATE: a FIELD that is FINAL; CAST: the FIELD, the ARRAY does not take it.");
+        order("BAD: no such; UNKNOWN (t); KIND: t is no ROW; STATE: a FIELD that is FINAL; CAST: the FIELD, the ARRAY does not take it.");
         Run x = things();
         int row = x.done("row", 5, 1);
         x.done("hold", 1, 2, 0, row);
@@ -192,7 +196,7 @@ public final class ToldFirstTest extends Due {
     }
 
     private static void changing() {
-        says("BAD (i, act); STATE: it is FROZEN; KIND: ticks.");
+        order("BAD (i, act); STATE: it is FROZEN; KIND: ticks.");
         Run x = things();
         x.done("hold", 0, 1, 0, 9);
         x.due(1, "find", 0, 0, 0).due(BAD, "each", 0, 4, 1).due(BAD, "each", 0, -1, 1).due(0, "fails", 0);
@@ -202,7 +206,7 @@ public final class ToldFirstTest extends Due {
     }
 
     private static void summing() {
-        says("BAD (i, as), as longs; KIND: an ITEM does not WIDEN to that.");
+        order("BAD (i, as), as longs; KIND: an ITEM does not WIDEN to that.");
         Run x = things();
         x.done("hold", 0, 1, 0, 9);
         x.due(1, "find", 0, 0, 0).due(BAD, "sum", 0, 6).due(BAD, "sum", 0, 2).due(BAD, "sum", 1, 3).due(0, "fails", 0);

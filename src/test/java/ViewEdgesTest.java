@@ -44,7 +44,8 @@ public final class ViewEdgesTest extends Due {
     }
 
     private static void arrays() {
-        says("8 an ARRAY of PARTS, LAYERS, DENSES, NORMS or BLOCKS, 9 of LAYERS, DENSES or NORMS, 10 of DENSES, 11 of NORMS");
+        says("8 an ARRAY of PARTS, LAYERS, DENSES, NORMS or BLOCKS, 9 of LAYERS, DENSES or NORMS",
+            "10 of DENSES, 11 of NORMS, 12 of BLOCKS");
         goesAs("array", 0, 1, 8);
         goesAs("array", 1, 1, 8, 9, 25);
         goesAs("array", 2, 1, 8, 9, 10, 25);
@@ -57,8 +58,8 @@ public final class ViewEdgesTest extends Due {
     }
 
     private static void classes() {
-        says("16 .. 23 a PART of class 0 .. 7");
-        says("a THING is of a class if it is of it or of one under it");
+        says("16 .. 23 a PART of class 0 .. 7",
+            "a THING is of a class if it is of it or of one under it");
         goesAs("part", 1, NONE, 16, 17, 24);
         goesAs("part", 2, NONE, 16, 17, 18, 24);
         goesAs("part", 3, NONE, 16, 17, 18, 19, 24);
