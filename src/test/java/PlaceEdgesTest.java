@@ -206,9 +206,9 @@ public final class PlaceEdgesTest extends Due {
             int a = 8 + sort;
             int last = NONE;
             for (int t = 0; t < MADE; t++) {
-                boolean takes1 = has(takes[sort], t);
-                Object outcome = takes1 ? (Object) 1L : sort < 5 && has(PARTS, t) ? STORE_THROWN : CAST_THROWN;
-                last = takes1 ? t : last;
+                boolean taken = has(takes[sort], t);
+                Object outcome = taken ? (Object) 1L : sort < 5 && has(PARTS, t) ? STORE_THROWN : CAST_THROWN;
+                last = taken ? t : last;
                 x.outcomeIs(outcome, "lay", a, 1, t).due(last, "spot", a, 1).due(NONE, "spot", a, 0);
             }
             x.due(0, "fails", 0).due(1, "lay", a, 1, -1).due(NONE, "spot", a, 1);
